@@ -23,8 +23,8 @@ public final class GateTurns {
     private final Desk now = new Desk();
     private final Desk kept = new Desk();
     private boolean hasImage = false;
-    private final Tape tape = new Tape();
-    private final Reader reader = new Reader(tape);
+    private final Reader reader = new Reader();
+    private final Tape tape = reader.tape;
     private final Trouble trouble = new Trouble();
     private final Conditions conditions = new Conditions();
     private final Search search = new Search();
@@ -785,14 +785,10 @@ public final class GateTurns {
 
     /** Reads the tape from the left into a draft; once a fault is met nothing further is read. */
     private static final class Reader {
-        private final Tape tape;
+        final Tape tape = new Tape();
+        final Program draft = new Program();
         private int at = 0;
         private int fault = NO_FAULT;
-        final Program draft = new Program();
-
-        Reader(Tape tape) {
-            this.tape = tape;
-        }
 
         /** The FAULT, or NO_FAULT; the draft has all that is whole ahead of it. */
         int read() {

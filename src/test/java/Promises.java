@@ -238,6 +238,19 @@ public final class Promises {
         fault("enter 3", 6, 0);
         fault("enter 3x", 6, 0);
         fault("enter -", 6, 0);
+        fault("leave 3", 6, 0);
+        fault("wait 3", 5, 0);
+        fault("notify 3", 7, 0);
+        fault("all 3", 4, 0);
+        fault("allz 0", 0, 0);
+        fault("alla 0", 0, 0);
+        fault("all{ 0", 3, 0);
+        fault("all` 0", 3, 0);
+        fault("bdd 0 1", 0, 0);
+        fault("enter /", 6, 0);
+        fault("enter :", 6, 0);
+        fault("jump /", 5, 0);
+        fault("jump :", 5, 0);
         fault("enter 12", 7, 1);
         fault("enter 1 ", 7, 1);
         fault("enter 1;", 8, 1);
@@ -662,7 +675,9 @@ public final class Promises {
         GateTurns x = with("set 0 1", "set 0 2", "set 1 3");
         due("outcomes", x.found(7), 2);
         due("over", x.found(3), 2);
-        due("found", x.found(0), x.found(0));
+        GateTurns alike = with("if 0 1 2;leave 0", "set 0 1");
+        due("two are over", alike.found(3), 2);
+        due("with the same cells", alike.found(7), 1);
         x.put(1, 7);
         due("asked anew behind put", x.found(0) > 27 ? 1 : 0, 1);
         x.task();
@@ -671,6 +686,7 @@ public final class Promises {
         steps(x, 3);
         due("asked anew behind step", x.found(0) < four ? 1 : 0, 1);
         x.restart();
+        due("no condition", x.found(6), -5);
         x.condition(0, 0, 2);
         due("asked anew behind condition", x.found(6), 1);
         x.condition(-1, 0, 0);
@@ -711,6 +727,8 @@ public final class Promises {
         due("schedule(1, 0)", y.schedule(1, 0), 1);
         due("schedule(1, 1)", y.schedule(1, 1), 1);
         due("schedule(1, 2)", y.schedule(1, 2), -1);
+        due("schedule(2, 0)", y.schedule(2, 0), -1);
+        due("schedule(-1, 0)", y.schedule(-1, 0), -1);
         y.put(0, 9);
         due("failing now: no tasks", y.schedule(1, 0), -1);
         due("depth 0", y.found(6), 0);
