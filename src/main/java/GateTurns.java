@@ -596,7 +596,7 @@ public final class GateTurns {
         }
 
         private int doAtMonitor(int task, int sort, int monitor) {
-            if (missing[monitor]) {
+            if (!isMonitor(monitor) || missing[monitor]) {
                 return IS_MISSING;
             }
             if (sort == ENTER) {
@@ -664,7 +664,15 @@ public final class GateTurns {
         private int doWithCells(int task, Program program, int at) {
             int first = program.part(at, FIRST);
             int number = program.part(at, NUMBER);
-            switch (program.part(at, SORT)) {
+            int sort = program.part(at, SORT);
+            if (sort == JUMP) {
+                place[task] = Math.min(first, program.size);
+                return WENT_WELL;
+            }
+            if (!isCell(first)) {
+                return TOO_FAR;
+            }
+            switch (sort) {
                 case ADD:
                     if (!isCellNumber(cells[first] + number)) {
                         return TOO_FAR;
@@ -674,13 +682,10 @@ public final class GateTurns {
                 case SET:
                     cells[first] = number;
                     break;
-                case IF:
+                default:
                     if (cells[first] != number) {
                         place[task] = Math.min(program.part(at, TARGET), program.size);
                     }
-                    break;
-                default:
-                    place[task] = Math.min(first, program.size);
                     break;
             }
             return WENT_WELL;
@@ -977,7 +982,7 @@ public final class GateTurns {
 
         boolean allSo(int[] cells) {
             for (int i = 0; i < size; i++) {
-                if (!isSo(how[i], cells[cell[i]], number[i])) {
+                if (isCell(cell[i]) && !isSo(how[i], cells[cell[i]], number[i])) {
                     return false;
                 }
             }
@@ -1210,7 +1215,11 @@ public final class GateTurns {
         }
 
         int depthOf(int state) {
-            return state < 0 || state >= states.size ? THERE_IS_NONE : depth[state];
+            return isFound(state) ? depth[state] : THERE_IS_NONE;
+        }
+
+        private boolean isFound(int state) {
+            return state >= 0 && state < states.size;
         }
 
         /** The i-th task of the schedule of a state, or NOBODY. */
@@ -1220,10 +1229,10 @@ public final class GateTurns {
                 return NOBODY;
             }
             int at = state;
-            for (int k = length - 1; k > i; k--) {
+            for (int k = length - 1; k > i && isFound(at); k--) {
                 at = cameFrom[at];
             }
-            return mover[at];
+            return isFound(at) ? mover[at] : NOBODY;
         }
 
         int cellOfOutcome(int k, int cell) {

@@ -1,68 +1,6 @@
 /** One method for each promise of DOC.md, with ordinary inputs, the edges that it names, and wrong inputs. */
-public final class Promises {
-    private static final int LEAST = Integer.MIN_VALUE, MOST = Integer.MAX_VALUE;
-    private static int wrong = 0;
+public final class Promises extends Checks {
     private static int promise = 0;
-
-    private static void due(String call, long got, long want) {
-        if (got != want) {
-            wrong++;
-            System.out.println("promise " + promise + ": " + call + " answered " + got + ", due is " + want);
-        }
-    }
-
-    private static void feedAll(GateTurns x, String text) {
-        for (int i = 0; i < text.length(); i++) {
-            x.feed(text.charAt(i));
-        }
-    }
-
-    private static int read(GateTurns x, int task, String text) {
-        feedAll(x, text);
-        return x.program(task);
-    }
-
-    /** An object with a task for each text. */
-    private static GateTurns with(String... texts) {
-        GateTurns x = new GateTurns();
-        for (String text : texts) {
-            int task = x.task();
-            if (!text.isEmpty()) {
-                due("the program " + text, read(x, task, text) > 0 ? 1 : 0, 1);
-            }
-        }
-        return x;
-    }
-
-    private static void steps(GateTurns x, int... tasks) {
-        for (int task : tasks) {
-            int status = x.step(task);
-            due("a step of " + task + " is taken", status >= 0 ? 1 : 0, 1);
-        }
-    }
-
-    private static String row(GateTurns x, int monitor, int which) {
-        StringBuilder s = new StringBuilder();
-        for (int i = 0; x.stands(monitor, which, i) >= 0; i++) {
-            s.append(x.stands(monitor, which, i));
-        }
-        return s.toString();
-    }
-
-    private static void dueRow(String what, String got, String want) {
-        if (!got.equals(want)) {
-            wrong++;
-            System.out.println("promise " + promise + ": " + what + " is '" + got + "', due is '" + want + "'");
-        }
-    }
-
-    private static String cause(GateTurns x) {
-        StringBuilder s = new StringBuilder();
-        for (int i = 0; x.cause(i, 0) != -5 && i < 10; i++) {
-            s.append(i == 0 ? "" : " ").append(x.cause(i, 0)).append(':').append(x.cause(i, 1));
-        }
-        return s.toString();
-    }
 
     private static void p1() {
         GateTurns x = new GateTurns();
@@ -117,8 +55,8 @@ public final class Promises {
         x.missing(2, true);
         steps(x, 0, 0, 1, 1, 2, 3);
         x.put(3, 9);
-        dueRow("wait", row(x, 0, 1), "0");
-        dueRow("entry", row(x, 1, 0), "3");
+        dueText("wait", row(x, 0, 1), "0");
+        dueText("entry", row(x, 1, 0), "3");
         due("of(2, 4)", x.of(2, 4), 2);
         due("restart()", x.restart(), 4);
         for (int t = 0; t < 4; t++) {
@@ -134,7 +72,7 @@ public final class Promises {
         due("cell(3)", x.cell(3), 0);
         due("told(5)", x.told(5), -5);
         due("programs stay", x.statement(3, 1, 2), 7);
-        dueRow("trouble stays", cause(x), "4:2 5:0 6:1");
+        dueText("trouble stays", cause(x), "4:2 5:0 6:1");
         due("restart() of none", new GateTurns().restart(), 0);
     }
 
@@ -212,7 +150,7 @@ public final class Promises {
     private static void fault(String text, int place, int whole) {
         GateTurns x = with("", "");
         due("'" + text + "'", read(x, 1, text), -100 - place);
-        dueRow("trouble of '" + text + "'", cause(x), "1:1 2:" + whole + " 3:" + place);
+        dueText("trouble of '" + text + "'", cause(x), "1:1 2:" + whole + " 3:" + place);
         due("the tape is empty", x.told(1), 0);
         due("no program", x.statement(1, 0, 0), -100);
     }
@@ -292,7 +230,7 @@ public final class Promises {
         steps(x, 0);
         due("program(0)", x.program(0), -3);
         due("the tape stays", x.told(1), 7);
-        dueRow("trouble stays", cause(x), "1:0 2:1 3:13");
+        dueText("trouble stays", cause(x), "1:0 2:1 3:13");
         x.restart();
         due("program(0)", x.program(0), 1);
         steps(x, 0, 0);
@@ -342,13 +280,13 @@ public final class Promises {
         due("it is ready", x.of(2, 0), 0);
         due("its saved is 0", x.of(2, 2), 0);
         steps(x, 1, 3);
-        dueRow("entry", row(x, 0, 0), "13");
+        dueText("entry", row(x, 0, 0), "13");
         due("done", x.step(2), 3);
         due("left", x.of(2, 5), 1);
         due("the next one owns", x.gate(0, 0), 1);
         steps(x, 1);
-        dueRow("entry behind notify", row(x, 0, 0), "30");
-        dueRow("wait behind notify", row(x, 0, 1), "");
+        dueText("entry behind notify", row(x, 0, 0), "30");
+        dueText("wait behind notify", row(x, 0, 1), "");
         due("the notified keeps saved", x.of(0, 2), 2);
         due("it is blocked", x.of(0, 0), 1);
         steps(x, 1, 3);
@@ -376,7 +314,7 @@ public final class Promises {
         due("reason of '" + text + "'", x.of(0, 4), reason);
         due("left", x.of(0, 5), 0);
         due("it owns none", x.of(0, 6), 0);
-        dueRow("chain of '" + text + "'", cause(x), chain);
+        dueText("chain of '" + text + "'", cause(x), chain);
     }
 
     private static void breaks() {
@@ -433,23 +371,23 @@ public final class Promises {
         String waits = "enter 1;wait 1";
         GateTurns x = with(waits, waits, waits, "enter 1;all 1");
         steps(x, 2, 2, 0, 0, 1, 1, 3);
-        dueRow("wait", row(x, 1, 1), "201");
+        dueText("wait", row(x, 1, 1), "201");
         steps(x, 3);
-        dueRow("wait behind all", row(x, 1, 1), "");
-        dueRow("entry behind all", row(x, 1, 0), "201");
+        dueText("wait behind all", row(x, 1, 1), "");
+        dueText("entry behind all", row(x, 1, 0), "201");
         due("all are blocked", x.are(1), 7);
         due("done", x.step(3), 3);
         due("the first owns", x.gate(1, 0), 2);
         GateTurns y = with(waits, waits, "enter 1;notify 1;notify 1;notify 1");
         steps(y, 0, 0, 1, 1, 2, 2);
-        dueRow("entry", row(y, 1, 0), "0");
-        dueRow("wait", row(y, 1, 1), "1");
+        dueText("entry", row(y, 1, 0), "0");
+        dueText("wait", row(y, 1, 1), "1");
         steps(y, 2, 2);
-        dueRow("entry", row(y, 1, 0), "01");
+        dueText("entry", row(y, 1, 0), "01");
         due("notify of none", y.of(2, 1), 4);
         GateTurns z = with(waits, waits, waits, waits);
         steps(z, 3, 3, 1, 1, 0, 0, 2, 2);
-        dueRow("all four wait", row(z, 1, 1), "3102");
+        dueText("all four wait", row(z, 1, 1), "3102");
     }
 
     private static void p12() {
@@ -481,7 +419,7 @@ public final class Promises {
         due("none", new GateTurns().run(1, 5), 0);
         GateTurns w = with("leave 0", "set 0 1");
         due("a breaking step counts", w.run(0, 40), 3);
-        dueRow("it is told", cause(w), "4:0 5:0 6:0");
+        dueText("it is told", cause(w), "4:0 5:0 6:0");
     }
 
     private static void p13() {
@@ -508,7 +446,7 @@ public final class Promises {
         due("till one isn't ready", x.follow(0, 0, 5), 3);
         due("those taken stay", x.cell(1), 5);
         due("the latest", x.told(5), 2);
-        dueRow("it is told", cause(x), "4:2 5:0 6:0");
+        dueText("it is told", cause(x), "4:2 5:0 6:0");
         due("follow(0, 4, 1)", x.follow(0, 4, 1), 1);
         x.set(0, 1, 3);
         due("till one is none", x.follow(0, 0, 3), 1);
@@ -619,22 +557,22 @@ public final class Promises {
         due("cause(0, -1)", x.cause(0, -1), -1);
         due("cause(9, 2)", x.cause(9, 2), -1);
         steps(x, 1);
-        dueRow("no trouble", cause(x), "");
+        dueText("no trouble", cause(x), "");
         due("what is only found is no trouble", x.found(0) > 1 ? 1 : 0, 1);
-        dueRow("no trouble", cause(x), "");
+        dueText("no trouble", cause(x), "");
         steps(x, 0, 0);
-        dueRow("a step's", cause(x), "4:0 5:1 6:2");
+        dueText("a step's", cause(x), "4:0 5:1 6:2");
         due("cause(3, 0)", x.cause(3, 0), -5);
         due("cause(MOST, 1)", x.cause(MOST, 1), -5);
         x.image();
         x.restart();
         read(x, 1, "add 0 1;bad 0");
-        dueRow("a program's", cause(x), "1:1 2:1 3:8");
+        dueText("a program's", cause(x), "1:1 2:1 3:8");
         x.back();
-        dueRow("back() leaves it", cause(x), "1:1 2:1 3:8");
+        dueText("back() leaves it", cause(x), "1:1 2:1 3:8");
         x.restart();
         read(x, 1, "add 0 1");
-        dueRow("a program without a fault leaves it", cause(x), "1:1 2:1 3:8");
+        dueText("a program without a fault leaves it", cause(x), "1:1 2:1 3:8");
     }
 
     private static void p20() {
@@ -948,7 +886,7 @@ public final class Promises {
         due("missing", x.gate(2, 4), 1);
         due("there", x.gate(1, 4), 0);
         due("owner", x.gate(0, 0), 1);
-        dueRow("wait", row(x, 0, 1), "0");
+        dueText("wait", row(x, 0, 1), "0");
         due("cell(3)", x.cell(3), -9);
         due("the program", x.statement(0, 2, 0), 2);
         due("the latest", x.told(5), 3);
@@ -973,11 +911,9 @@ public final class Promises {
             Promises::p28, Promises::p29, Promises::p30, Promises::p31, Promises::p32};
         for (Check check : all) {
             promise++;
+            where = "promise " + promise;
             check.run();
         }
-        System.out.println(wrong == 0 ? promise + " promises hold" : wrong + " answers are not as due");
-        if (wrong != 0) {
-            System.exit(1);
-        }
+        end(promise + " promises hold");
     }
 }
