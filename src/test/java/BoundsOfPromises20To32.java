@@ -37,6 +37,16 @@ public final class BoundsOfPromises20To32 extends Checks {
         due("none fails", x.schedule(1, 0), NONE);
         x.put(0, 1);
         due("it fails now: of no TASKS", x.schedule(1, 0), NONE);
+        x.put(0, 0);
+        x.condition(1, 1, 0);
+        read(x, 1, "enter 1;set 1 3;enter 0");
+        int[] fails = {1, 1};
+        for (int i = -1; i <= 2; i++) {
+            due("schedule(1, " + i + ")", x.schedule(1, i), i >= 0 && i < 2 ? fails[i] : NONE);
+            due("schedule(2, " + i + ")", x.schedule(2, i), NONE);
+            due("schedule(-1, " + i + ")", x.schedule(-1, i), NONE);
+        }
+        read(x, 1, "enter 1;enter 0");
         steps(x, 0, 1, 0);
         due("one is left", x.schedule(0, 0), 1);
         due("no second", x.schedule(0, 1), NONE);
@@ -55,6 +65,21 @@ public final class BoundsOfPromises20To32 extends Checks {
                 for (int k = 0; k < size; k++) {
                     int want = k < i || k >= i + 4 ? 9 : (k - i) % 2;
                     due("of " + size + " from " + i + ", place " + k, x.get(1, k), want);
+                }
+            }
+        }
+    }
+
+    /** Promise 22: "That SCHEDULE is laid into a LIST from i on: how many TASKS it has." */
+    private static void p22NoneOneTwo() {
+        for (int length = 0; length <= 2; length++) {
+            for (int size = 0; size <= 3; size++) {
+                GateTurns x = with("", "add 0 1;add 0 1");
+                x.condition(0, 0, length);
+                x.list(0, size);
+                due(length + " into " + size, x.lay(1, 0, 0), length <= size ? length : BEYOND);
+                for (int k = 0; k < size; k++) {
+                    due("place " + k, x.get(0, k), k < length ? 1 : 0);
                 }
             }
         }

@@ -23,6 +23,20 @@ public final class BoundsOfTerms2 extends Checks {
         GateTurns four = with("enter 0", "enter 0", "enter 0", "enter 0;jump 1");
         steps(four, 3);
         due("ENTRY in order, three", four.found(0), 1 + 3 + 6 + 6);
+        for (int saved = 7; saved <= 9; saved++) {
+            // what is SAVED comes back as COUNT: from 9 on one more enter breaks, and the last STATEMENT is never done
+            GateTurns often = with("enter 0;jump 0", "jump 1;enter 0;notify 0;leave 0", "jump 1;jump 2");
+            often.run(0, 2 * saved - 1);
+            due("COUNT", often.gate(0, 1), saved);
+            steps(often, 0);
+            read(often, 0, "wait 0;enter 0;set 1 5");
+            steps(often, 0);
+            due("SAVED", often.of(0, 2), saved);
+            due("OVER", often.found(3), 1);
+            due("its OUTCOME", often.outcome(0, 1), saved == 9 ? 0 : 5);
+            // four till it is let in, then so many of its own with two of TASK 1's; each with four of TASK 2's
+            due("FOUND", often.found(0), (4 + (saved == 9 ? 2 : 4) * 2) * 4);
+        }
         GateTurns latest = with("jump 0", "jump 0");
         due("who took the latest STEP isn't of it", latest.found(0), 1);
     }
@@ -92,6 +106,33 @@ public final class BoundsOfTerms2 extends Checks {
         due("its DEPTH", y.found(4), 0);
     }
 
+    /** Terms 2: "FOUND: the STATE as it is now" */
+    private static void foundAnewBehindEachCall() {
+        View.Call[] calls = {x -> x.put(0, 3), x -> x.missing(1, true), x -> x.step(1), x -> x.task(), x -> x.run(1, 3),
+            x -> x.list(0, 2), x -> x.follow(0, 0, 2), x -> x.condition(1, 0, 4), x -> x.back(), x -> x.restart(),
+            x -> x.condition(-1, 0, 0), x -> read(x, 2, "enter 1;add 1 -1"), x -> read(x, 1, "set 0 1;leave 2")};
+        for (int ahead = 0; ahead < calls.length; ahead++) {
+            for (int k = 0; k < calls.length; k++) {
+                GateTurns asked = crossed();
+                GateTurns notAsked = crossed();
+                for (int c : new int[] {ahead, k}) {
+                    View.RUNS.of(asked);
+                    calls[c].on(asked);
+                    calls[c].on(notAsked);
+                }
+                dueText("FOUND behind call " + ahead + " and " + k, View.RUNS.of(asked), View.RUNS.of(notAsked));
+            }
+        }
+    }
+
+    private static GateTurns crossed() {
+        GateTurns x = with("enter 0;enter 1;add 0 1;wait 0", "enter 1;enter 0;add 1 2;notify 0");
+        x.condition(0, 0, 1);
+        x.image();
+        x.step(0);
+        return x;
+    }
+
     /** Terms 2: "what it is behind a STEP of TASK 0, 1, .. (of each that is READY in it), if it is unlike all FOUND yet" */
     private static void inTheOrderOfTasks() {
         GateTurns x = with("set 0 1", "set 0 1", "set 0 1", "set 0 1");
@@ -130,6 +171,40 @@ public final class BoundsOfTerms2 extends Checks {
             due(states + ": OUTCOMES", x.found(7), all ? 1 : 0);
             due(states + ": the first OUTCOME", x.outcome(0, 0), all ? 99 : NO_SUCH);
         }
+    }
+
+    /** Terms 2: "if it is unlike all FOUND yet. 600 at most" */
+    private static void manyWaysToTheSame() {
+        // TASKS that have nothing to do with one another: as many STATES as the product, each met by many ways
+        String[] jumps = {"jump 1;jump 2", "jump 1;jump 2;jump 3", "jump 1;jump 2;jump 3;jump 4",
+            "jump 1;jump 2;jump 3;jump 4;jump 5"};
+        int[][] which = {{0, 1, 1, 1}, {0, 1, 1, 2}, {0, 1, 1, 3}, {1, 1, 1, 1}};
+        for (int[] w : which) {
+            GateTurns x = with(jumps[w[0]], jumps[w[1]], jumps[w[2]], jumps[w[3]]);
+            int product = (4 + w[0]) * (4 + w[1]) * (4 + w[2]) * (4 + w[3]);
+            boolean all = product <= 600;
+            due("of " + product, x.found(0), Math.min(product, 600));
+            due("of " + product + ", all", x.found(1), all ? 1 : 0);
+            due("of " + product + ", OVER", x.found(3), all ? 1 : 0);
+            if (all) {
+                due("of " + product + ", DEPTH", x.found(4), 12 + w[0] + w[1] + w[2] + w[3]);
+            }
+        }
+    }
+
+    /** Terms 2: "600 at most: where one more would be, none further is (NOT ALL)." */
+    private static void notAllThenAll() {
+        GateTurns x = soMany(601);
+        due("not all", x.found(1), 0);
+        due("none is OVER", x.found(3), 0);
+        steps(x, 0);
+        due("from one STEP on just 600", x.found(0), 600);
+        due("all", x.found(1), 1);
+        due("one is OVER", x.found(3), 1);
+        x.restart();
+        x.put(0, -50);
+        due("not all again", x.found(1), 0);
+        due("none is OVER", x.found(7), 0);
     }
 
     /** Jumps ahead, then a count from -99 to 99 in three STEPS each, then two STATEMENTS: 594 STEPS and the jumps to 99. */
