@@ -68,6 +68,10 @@ public final class FaceAndRules {
         due("the class is final", Modifier.isFinal(GateTurns.class.getModifiers()), true);
     }
 
+    private static boolean isOfFace(String name) {
+        return Arrays.stream(FACE).anyMatch(call -> call.startsWith(name + "("));
+    }
+
     private static void classesInside() {
         Class<?>[] inside = GateTurns.class.getDeclaredClasses();
         due("at most twelve classes", inside.length + 1 <= 12, true);
@@ -82,6 +86,7 @@ public final class FaceAndRules {
             due(c.getName() + " has at most twenty fields", fields <= 20, true);
             for (Method m : c.getDeclaredMethods()) {
                 due(m + " has at most seven parameters", m.getParameterCount() <= 7, true);
+                due(m + " bears a public name", isOfFace(m.getName()), false);
             }
         }
     }
